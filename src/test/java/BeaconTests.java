@@ -21,6 +21,7 @@ final class BeaconTests {
         wrongByFlare();
         wrongByCloud();
         rightAllTheSame();
+        rightAtAnotherHour();
         madeByListeningAlone();
     }
 
@@ -176,6 +177,18 @@ final class BeaconTests {
         wet.sea(45, true);
         due.is("by sea, with noise", wet.listen(2), 1);
         forecasts(wet, 3, 3);
+    }
+
+    private void rightAtAnotherHour() {
+        SkipRays air = new SkipRays();
+        air.beacon(40, 250, 13);
+        air.sun(100);
+        due.is("at night", air.listen(45), 0);
+        air.pass(12);
+        due.is("by day", air.listen(45), 1);
+        air.pass(12);
+        due.is("at night again", air.listen(45), 0);
+        forecasts(air, 3, 3);
     }
 
     private void madeByListeningAlone() {

@@ -17,10 +17,13 @@ final class LogTests {
         hoursOfPairs();
         counting();
         countingByEitherHour();
+        contactsWithOthers();
+        fullRows();
         entryRefusals();
         due.promise(27);
         points();
         lands();
+        rimsOfLands();
         missed();
         scoreRefusals();
         due.promise(29);
@@ -179,6 +182,36 @@ final class LogTests {
         due.is("an hour too early", air.entryOf(6, 5), 0);
     }
 
+    private void contactsWithOthers() {
+        SkipRays air = four();
+        air.log(0, 1, 100);
+        air.log(1, 0, 100);
+        due.is("0 calls 2", air.call(0, 2, 100, 2), true);
+        due.is("2 calls 0", air.call(2, 0, 100, 2), true);
+        due.is("1 calls 2", air.call(1, 2, 100, 2), true);
+        due.is("2 calls 1", air.call(2, 1, 100, 2), true);
+        due.is("contacts with others", air.entryOf(0, 5), 0);
+        due.is("of the other one too", air.entryOf(1, 5), 0);
+        due.is("the one calls the other", air.call(1, 0, 100, 2), true);
+        due.is("their own contact", air.entryOf(0, 5), 1);
+    }
+
+    private void fullRows() {
+        SkipRays air = four();
+        for (int n = 0; n < 60; n++) {
+            due.is("contact " + n, air.call(0, 1, n < 59 ? 100 : 101, 2), true);
+        }
+        for (int n = 0; n < 80; n++) {
+            air.log(n % 2, 1 - n % 2, 101 + n / 2);
+        }
+        due.is("the last contact", air.entryOf(0, 5), 1);
+        due.is("none of 60 contacts", air.entryOf(79, 5), 0);
+        due.is("the last entry", air.entryOf(79, 2), 140);
+        due.is("paired", air.count(4), 80);
+        due.is("a score of 80 entries", air.score(0), 1);
+        due.is("a score of none of them", air.score(2), 0);
+    }
+
     private void entryRefusals() {
         SkipRays air = four();
         due.outside("no entry at all", () -> air.entryOf(0, 0));
@@ -229,6 +262,20 @@ final class LogTests {
             work(air, 0, n + 1, frequencyTo(places[n]));
             due.is("contacts", air.count(2), n + 1);
             due.is("score with " + (n + 1), air.score(0), wants[n]);
+        }
+    }
+
+    private void rimsOfLands() {
+        SkipRays air = new SkipRays();
+        int[] places = {0, 5, 6, 10, 41};
+        int[] wants = {0, 1, (1 + 2) * 2, (1 + 2 + 2) * 2, (1 + 2 + 2 + 2) * 3};
+        for (int n = 0; n < places.length; n++) {
+            air.station(places[n], 80, SkipRays.EVEN, SkipRays.BOTH);
+            if (n > 0) {
+                work(air, 0, n, 42);
+            }
+            due.is("contacts", air.count(2), n);
+            due.is("score with " + n, air.score(0), wants[n]);
         }
     }
 

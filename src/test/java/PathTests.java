@@ -11,6 +11,7 @@ final class PathTests {
         countInTheDark();
         countToItself();
         countToTheWest();
+        tenLegs();
         groundTakes();
         lightTakes();
         pathRefusals();
@@ -59,6 +60,24 @@ final class PathTests {
         due.is("5 places, too weak", air.paths(45, 40, 100, 6), 0);
         due.is("12 places", air.paths(4, 40, 100, 38), 4);
         due.is("to a place of itself, as in the east", air.paths(0, 0, 10, 2), 6);
+    }
+
+    /** On 50, at sea in the dark, 10 legs of a place take 3 each, and the ground ahead of 9 of them 3. */
+    private static SkipRays wet() {
+        SkipRays air = new SkipRays();
+        for (int place = 0; place < 48; place++) {
+            air.sea(place, true);
+        }
+        return air;
+    }
+
+    private void tenLegs() {
+        SkipRays air = wet();
+        due.is("2 legs, 5 legs twice, 10 legs", air.paths(36, 46, 50, 57), 4);
+        due.is("10 legs, too weak", air.paths(36, 46, 50, 56), 3);
+        due.is("11 legs", air.paths(36, 47, 50, 100), 0);
+        due.is("10 legs to the west", air.paths(10, 0, 50, 57), 4);
+        due.is("11 legs to the west", air.paths(11, 0, 50, 100), 0);
     }
 
     private void groundTakes() {
@@ -145,6 +164,10 @@ final class PathTests {
         SkipRays air = new SkipRays();
         tells(air, new int[] {2, 40, 100, 20}, 0, SkipRays.WEST, 1, 2, 0, 0, 110);
         tells(air, new int[] {4, 40, 100, 38}, 3, SkipRays.WEST, 5, 4, 0, 0, 140);
+        due.outside("a path behind the last one", () -> air.path(2, 40, 100, 20, 1, 0));
+        SkipRays wet = wet();
+        tells(wet, new int[] {10, 0, 50, 57}, 3, SkipRays.WEST, 8, 10, 0, 0, 150);
+        tells(wet, new int[] {36, 46, 50, 57}, 3, SkipRays.EAST, 8, 10, 0, 0, 150);
     }
 
     private void noSuchPath() {
