@@ -5,12 +5,19 @@ import java.util.TreeSet;
 final class Due {
     private final Set<Integer> promises = new TreeSet<>();
     private int promise;
+    private String test = "";
     private int passed;
     private int failed;
 
     /** The checks that follow are of this promise of the document. */
     void promise(int number) {
+        edge(number, "");
+    }
+
+    /** The checks that follow are of this promise, and of the test of this name. */
+    void edge(int number, String name) {
         promise = number;
+        test = name;
         promises.add(number);
     }
 
@@ -28,15 +35,20 @@ final class Due {
 
     /** There is no such place, station, beacon, contact, entry or path. */
     void outside(String what, Runnable call) {
-        note(what, thrownBy(call), IndexOutOfBoundsException.class.getName());
+        throwing(what, call, IndexOutOfBoundsException.class);
     }
 
     void refused(String what, Runnable call) {
-        note(what, thrownBy(call), IllegalArgumentException.class.getName());
+        throwing(what, call, IllegalArgumentException.class);
     }
 
     void full(String what, Runnable call) {
-        note(what, thrownBy(call), IllegalStateException.class.getName());
+        throwing(what, call, IllegalStateException.class);
+    }
+
+    /** Just this exception, not one of a class below it. */
+    void throwing(String what, Runnable call, Class<?> wanted) {
+        note(what, thrownBy(call), wanted.getName());
     }
 
     void note(String what, String got, String want) {
@@ -44,7 +56,8 @@ final class Due {
             passed++;
         } else {
             failed++;
-            System.out.println("promise " + promise + ": " + what + " answered " + got + ", due is " + want);
+            String where = test.isEmpty() ? "promise " + promise : test;
+            System.out.println(where + ": " + what + " answered " + got + ", due is " + want);
         }
     }
 
