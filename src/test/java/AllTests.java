@@ -34,7 +34,7 @@ public final class AllTests {
         new LogEdges(due, tests).run();
         int all = 0;
         for (int n = 1; n <= PROMISES; n++) {
-            due.note("a test of boundary cases of the promise " + n, tests[n] > 0 ? "is there" : "is missing", "is there");
+            due.is("a test of boundary cases of the promise " + n, tests[n] > 0, true);
             all += tests[n];
         }
         System.out.println(all + " tests of boundary cases");

@@ -1,5 +1,3 @@
-import java.util.function.Supplier;
-
 /**
  * Boundary cases of paths: promises 19 to 22. In the dark a leg takes 2 and its length; on 100 only F bends there,
  * the angles 1 to 5, by 5, 4, 4, 3 and 3 places.
@@ -459,13 +457,12 @@ final class PathEdges extends Edges {
     }
 
     void promise22PlacesThatAreNot() {
-        Supplier<SkipRays> busy = Scenes::busy;
-        outside("from -1", busy, air -> air.usable(-1, 45, 100, true));
-        outside("from 48", busy, air -> air.usable(48, 45, 100, false));
-        outside("to -1", busy, air -> air.usable(40, -1, 100, true));
-        outside("to 48", busy, air -> air.usable(40, 48, 100, false));
-        outside("from greatest", busy, air -> air.usable(GREATEST, 45, 100, true));
-        outside("to least", busy, air -> air.usable(40, LEAST, 100, true));
+        outside("from -1", Scenes::busy, air -> air.usable(-1, 45, 100, true));
+        outside("from 48", Scenes::busy, air -> air.usable(48, 45, 100, false));
+        outside("to -1", Scenes::busy, air -> air.usable(40, -1, 100, true));
+        outside("to 48", Scenes::busy, air -> air.usable(40, 48, 100, false));
+        outside("from greatest", Scenes::busy, air -> air.usable(GREATEST, 45, 100, true));
+        outside("to least", Scenes::busy, air -> air.usable(40, LEAST, 100, true));
     }
 
     void promise22StrengthsThatAreNot() {

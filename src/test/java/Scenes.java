@@ -1,4 +1,4 @@
-/** Objects in some states in which calls are refused or questions asked; each is made anew by some 180 calls at most. */
+/** Objects in some states in which calls are refused or questions asked; each is made by some 180 calls at most. */
 final class Scenes {
     static final int LAST_HOUR = 5000;
 

@@ -1,5 +1,3 @@
-import java.util.function.Supplier;
-
 /**
  * Boundary cases of stations, signals and contacts: promises 9, 11, 24 and 25. In the dark on 100 a leg of 5 places
  * takes 7, and the noise without light 3 more.
@@ -205,7 +203,7 @@ final class StationEdges extends Edges {
         due.is("power 2 less 3", between(40, 45, 2, EVEN, BOTH, 100), NO_SIGNAL);
     }
 
-    /** Of the angles 2 and 3, 4 and 5 and so on, which go equally far, LOW is best by the lower, HIGH by the higher one. */
+    /** The angles 2 and 3, 4 and 5 and so on go equally far: LOW is best by the lower, HIGH by the higher one. */
     void promise24GainsPerhapsBelow0() {
         int[] greatestFrequencies = {176, 159, 142, 126, 109, 92, 75, 58, 42};
         int[] lengths = {5, 4, 4, 3, 3, 2, 2, 1, 1};
@@ -291,8 +289,7 @@ final class StationEdges extends Edges {
     }
 
     void promise24AQuestionChangesNothing() {
-        Supplier<SkipRays> busy = Scenes::busy;
-        asking("signal", busy, air -> {
+        asking("signal", Scenes::busy, air -> {
             for (int n = 0; n < 60; n++) {
                 air.signal(n % 3, (n + 1) % 3, 10 + 4 * n);
             }
