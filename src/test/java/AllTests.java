@@ -16,6 +16,7 @@ public final class AllTests {
         }
         edges(due);
         due.promise(0);
+        new ReadmeTests(due).run();
         new ModelTests(due).run();
         System.out.println(due.passed() + " passed, " + due.failed() + " failed");
         if (due.failed() != 0) {
